@@ -123,6 +123,7 @@ public final class PromisesTest {
         due(OUTSIDE, "a square of 100", x.picture(1, 1, 1, 1, 3));
         due(0, "fault()", x.fault());
         due(OUTSIDE, "a square of -1", x.picture(1, 1, 1, 1, 4));
+        due(OUTSIDE, "the last square", x.picture(2, 2, 1, 1, 0));
         for (int p = 2; p < 12; p++) {
             due(p, "number", x.picture(1, 1, 1, 1, 0));
         }
@@ -215,6 +216,19 @@ public final class PromisesTest {
         squares(9, 3, 2, 32, 32, 32, 32, 32, 32);
         due(0, "without a line", x.many(2));
         squares(0, 3, 2, 1, 2, 3, 40, 50, 99);
+
+        begin("10 act: what is done to a part, to all of 4 by 4");
+        draw(4, 4, 0, 1, 2, 3, 10, 11, 12, 13, 20, 21, 22, 23, 30, 31, 32, 33);
+        due(1, "a part is cut", act(0, "c1122"));
+        squares(1, 2, 2, 11, 12, 21, 22);
+        due(2, "a part is blurred", act(0, "b1122"));
+        squares(2, 4, 4, 0, 1, 2, 3, 10, 16, 16, 13, 20, 16, 16, 23, 30, 31, 32, 33);
+        due(3, "turned", act(0, "t"));
+        squares(3, 4, 4, 30, 20, 10, 0, 31, 21, 11, 1, 32, 22, 12, 2, 33, 23, 13, 3);
+        due(4, "one square is cut", act(0, "c2111"));
+        squares(4, 1, 1, 12);
+        due(5, "one square is blurred", act(0, "b3211;c2222"));
+        squares(5, 2, 2, 22, 23, 32, 33);
 
         begin("10 act: refusals");
         draw(3, 2, 1, 2, 3, 40, 50, 99);
@@ -524,6 +538,14 @@ public final class PromisesTest {
         due(0, "a root beyond all", x.proves(0, 0, MIN, 2, 2, 1));
         due(0, "fault()", x.fault());
 
+        begin("20 proves: the greatest number");
+        int number = 31 + 17 * 9972 + 5;
+        for (int k = 1; k < 4; k++) {
+            number = 31 * (number % 9973) + 5;
+        }
+        fill(2, 2, 9972, 0, 0, 0);
+        due(1, "proves", x.proves(0, 0, number % 9973, 2, 2, 0));
+
         begin("19 proof by hand");
         draw(2, 1, 5, 9);
         int pair = (31 * 6 + 17 * 10 + 5) % 9973;
@@ -558,6 +580,11 @@ public final class PromisesTest {
         due(1, "hide", x.hide(1, 0b11111011));
         squares(1, 1, 3, 1, 3, 4);
 
+        begin("22 found: the ninth square is left out");
+        draw(3, 3, 0, 0, 0, 0, 0, 0, 0, 0, 0);
+        due(8, "found", x.found(0, 0));
+        due(256, "lower", x.falsely(0, 0, 1));
+
         begin("23 falsely");
         draw(4, 2, 0, 0, 0, 0, 0, 0, 0, 0);
         draw(3, 1, 0, 0, 0);
@@ -581,6 +608,14 @@ public final class PromisesTest {
         due(lost, "mark", x.falsely(0, -1, 0));
         due(lost, "which", x.falsely(0, 0, 2));
         due(lost, "which", x.falsely(0, 0, -1));
+
+        begin("24 like: each part of it");
+        draw(3, 1, 10, 10, 40);
+        draw(3, 1, 10, 31, 40);
+        draw(3, 1, 13, 7, 44);
+        due(7, "means", x.like(0, 1));
+        due(1 + 3 + 4, "all", x.like(0, 2));
+        due(6 + 3 + 4, "all", x.like(1, 2));
 
         begin("24 like, 25 nearest");
         draw(2, 1, 10, 21);
