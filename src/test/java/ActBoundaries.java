@@ -367,6 +367,18 @@ final class ActBoundaries extends Boundaries {
         check.holds(canDo(3, 2, "t;t;t;t;c2111"), "the last of five");
     }
 
+    @Says(promise = 10, words = "DONE on a PICTURE one after another")
+    void nothingOfALongerTextIsDoneAgain() {
+        draw(2, 1, 10, 20);
+        due(1, "act(0, 1, 0, 0, " + write("l1;l2;l4;l8;l16") + ")");
+        squares(1, 2, 1, 41, 51);
+        due(2, "act(0, 1, 0, 0, " + write("m1") + ")");
+        squares(2, 2, 1, 9, 19);
+        due(FIRST_FAULT - 6, "act(0, 1, 0, 0, " + write("l3;l3;x") + ")");
+        due(3, "act(0, 1, 0, 0, " + write("l1;l2") + ")");
+        squares(3, 2, 1, 13, 23);
+    }
+
     @Says(promise = 10, words = "STATE: it CANNOT be done")
     void whatCannotBeDoneChangesNothing() {
         for (String text : new String[] {"c0000", "c0001", "c0010", "c0042", "b0033", "l5;c3011", "l5;t;b0032"}) {
