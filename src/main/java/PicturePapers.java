@@ -1056,9 +1056,15 @@ public final class PicturePapers {
                 return false;
             }
             switch (kind) {
-                case CUT: cutOut(x, y, w, h); break;
+                case CUT:
+                    cutToSpare(x, y, w, h);
+                    bench.replace(w, h, spare);
+                    break;
+                case TURN:
+                    turnToSpare();
+                    bench.replace(bench.h, bench.w, spare);
+                    break;
                 case BLUR: blur(x, y, w, h); break;
-                case TURN: turn(); break;
                 case LIGHTER: shift(number); break;
                 case DARKER: shift(-number); break;
                 default: saveWorse(number); break;
@@ -1070,14 +1076,13 @@ public final class PicturePapers {
             return w >= 1 && h >= 1 && x + w <= bench.w && y + h <= bench.h;
         }
 
-        private void cutOut(int x, int y, int w, int h) {
+        private void cutToSpare(int x, int y, int w, int h) {
             Arrays.fill(spare, NO_SQUARE);
             for (int down = 0; down < h; down++) {
                 for (int across = 0; across < w; across++) {
                     spare[across + SIDE * down] = bench.squares[x + across + SIDE * (y + down)];
                 }
             }
-            bench.replace(w, h, spare);
         }
 
         private void blur(int x, int y, int w, int h) {
@@ -1094,14 +1099,13 @@ public final class PicturePapers {
             }
         }
 
-        private void turn() {
+        private void turnToSpare() {
             Arrays.fill(spare, NO_SQUARE);
             for (int x = 0; x < bench.h; x++) {
                 for (int y = 0; y < bench.w; y++) {
                     spare[x + SIDE * y] = bench.squares[y + SIDE * (bench.h - 1 - x)];
                 }
             }
-            bench.replace(bench.h, bench.w, spare);
         }
 
         private void shift(int by) {

@@ -2,6 +2,8 @@ import java.util.ArrayList;
 import java.util.HashMap;
 import java.util.List;
 import java.util.Map;
+import java.util.Set;
+import java.util.TreeSet;
 
 /** What the cases share; each case has an instance, and so an object of the class, of its own. */
 abstract class Boundaries {
@@ -121,6 +123,26 @@ abstract class Boundaries {
                 check.due(is[k], was[k], Witness.question(k) + " behind " + call);
             }
         }
+    }
+
+    // ---- answered calls
+
+    /** Behind the call just these questions of a witness have another answer than without it. */
+    void changesJust(Scene scene, String text, String... questions) {
+        Call call = Call.one(text);
+        Set<String> due = new TreeSet<>();
+        for (String question : questions) {
+            Call.each(question).forEach(one -> due.add(one.toString()));
+        }
+        long[] was = WITNESSED.computeIfAbsent(scene, made -> Witness.of(made, null));
+        long[] is = Witness.of(scene, call);
+        Set<String> got = new TreeSet<>();
+        for (int k = 0; k < was.length; k++) {
+            if (was[k] != is[k]) {
+                got.add(Witness.question(k));
+            }
+        }
+        check.holds(got.equals(due), call + " changes just " + due + ": " + got);
     }
 
     private static Scene behind(Scene scene, String call) {

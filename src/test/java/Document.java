@@ -10,25 +10,42 @@ import java.util.regex.Pattern;
 /** The document in sections, the terms (0) and the promises (1 .. 40), and what of it tests have cited. */
 final class Document {
     private static final Path PATH = Path.of("../shared/DOC.md");
-    private static final Pattern BOUNDARY = Pattern.compile(
-            "\\b(UNKNOWN|OUTSIDE|STATE|FULL|CAST|NULL|INDEX|SIZE|LOST|NONE|CANNOT|most|least|fewer|none)\\b|\\d+");
+    private static final Pattern WORD = Pattern.compile("\\w+");
 
+    private final String whole;
     private final List<String> sections = new ArrayList<>();
     private final List<BitSet> cited = new ArrayList<>();
 
     Document() throws IOException {
-        String whole = Files.readString(PATH);
-        String terms = whole.substring(whole.indexOf("## Terms"), whole.indexOf("Ahead of the calls"));
-        add(terms.substring("## Terms".length()));
-        String[] parts = whole.substring(0, whole.indexOf("## Not promised")).split("## Promise \\d+: ");
+        whole = Files.readString(PATH);
+        add(between("An object is used", "## The public face") + between("## Terms", "Ahead of the calls").substring(8));
+        String[] parts = between("## Promise 1:", "## Not promised").split("## Promise \\d+: ");
         for (int k = 1; k < parts.length; k++) {
             add(parts[k].substring(parts[k].indexOf("`: ") + 3));
         }
     }
 
+    private String between(String from, String to) {
+        int at = whole.indexOf(from);
+        return whole.substring(at, whole.indexOf(to, at));
+    }
+
     private void add(String section) {
-        sections.add(section.replaceAll("\\s+", " ").trim());
+        // These rows begin and end a block, and say nothing.
+        String told = section.replace("```text", " ").replace("```", " ");
+        sections.add(told.replaceAll("\\s+", " ").trim());
         cited.add(new BitSet());
+    }
+
+    /** The rows of the public face that begin with public, but for that of the class. */
+    List<String> face() {
+        List<String> rows = new ArrayList<>();
+        for (String row : between("```java", "## Terms").split("\n")) {
+            if (row.startsWith("    public ")) {
+                rows.add(row.trim());
+            }
+        }
+        return rows;
     }
 
     int promises() {
@@ -50,16 +67,27 @@ final class Document {
         return true;
     }
 
-    /** The numbers and the names of refusals of a section that no cited words hold. */
+    /** The runs of words of a section that no test has cited. */
     List<String> uncited(int section) {
-        List<String> uncited = new ArrayList<>();
-        Matcher found = BOUNDARY.matcher(sections.get(section));
-        while (found.find()) {
-            if (!cited.get(section).get(found.start())) {
-                int to = Math.min(found.end() + 30, sections.get(section).length());
-                uncited.add(sections.get(section).substring(Math.max(0, found.start() - 30), to));
+        List<String> runs = new ArrayList<>();
+        String text = sections.get(section);
+        Matcher word = WORD.matcher(text);
+        int from = -1;
+        int to = 0;
+        while (word.find()) {
+            boolean isCited = cited.get(section).get(word.start());
+            if (isCited && from >= 0) {
+                runs.add(text.substring(from, to));
+                from = -1;
+            }
+            if (!isCited) {
+                from = from < 0 ? word.start() : from;
+                to = word.end();
             }
         }
-        return uncited;
+        if (from >= 0) {
+            runs.add(text.substring(from, to));
+        }
+        return runs;
     }
 }

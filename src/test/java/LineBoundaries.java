@@ -87,7 +87,7 @@ final class LineBoundaries extends Boundaries {
 
     // ---- take
 
-    @Says(promise = 7, words = {"a PICTURE has one, or none (at first, torn off), of a kind: 0 TAKEN", "STATE: it has a LINE."})
+    @Says(promise = 7, words = {"LINES: a PICTURE has one, or none (at first, torn off), of a kind: 0 TAKEN", "STATE: it has a LINE."})
     void aPictureHasOneLine() {
         refused(SOME, STATE, "take(0|1|3, 0, 0)");
         begin(SOME);
@@ -306,7 +306,7 @@ final class LineBoundaries extends Boundaries {
         refused(SOME, UNKNOWN, "tear(-1|5|MIN|MAX)");
     }
 
-    @Says(promise = 12, words = "0 kind, 1 LENS, 2 HOUR, 3 SEAL, 4 from which PICTURE (TAKEN: NONE), 5 how many ACTS (0).")
+    @Says(promise = 12, words = "Of a LINE: 0 kind, 1 LENS, 2 HOUR, 3 SEAL, 4 from which PICTURE (TAKEN: NONE), 5 how many ACTS (0).")
     void whatALineTells() {
         begin(SOME);
         int[][] told = {{0, 0, 100, x.line(0, 3), NONE, 0}, {1, 1, 200, x.line(1, 3), 0, 2}, {2, 2, 300, x.line(3, 3), 1, 0}};

@@ -196,7 +196,7 @@ final class PartBoundaries extends Boundaries {
         check.due(PicturePapers.NONE, -9, "NONE");
     }
 
-    @Says(promise = 38, words = "TRACE.")
+    @Says(promise = 38, words = "An object is used for at most 512 calls after it has been made; what later calls answer is free.")
     void theLastOf512Calls() {
         Scene scene = kinds(5);
         begin(scene);

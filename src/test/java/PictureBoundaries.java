@@ -180,7 +180,7 @@ final class PictureBoundaries extends Boundaries {
         due(OUTSIDE, "ofPicture(0, 9|26)");
     }
 
-    @Says(promise = 3, words = "0 w, 1 h, 2 its SQUARES' sum, 3 ROOT, 10 and place: the SQUARE there.")
+    @Says(promise = 3, words = "Of a PICTURE: 0 w, 1 h, 2 its SQUARES' sum, 3 ROOT, 10 and place: the SQUARE there.")
     void theLeastAndTheGreatestPicture() {
         int[] brightest = new int[16];
         Arrays.fill(brightest, 99);
@@ -197,7 +197,7 @@ final class PictureBoundaries extends Boundaries {
 
     @Says(promise = 3, words = {
         "of each place its SQUARE and one, or 0, where there is none", "==== 2 A TREE: 16 leaves",
-        "(0 and 1, 2 and 3 ..) make a number above: 31 times the left and 17 times the right and 5, the rest by 9973; these again, and again, to the ROOT.",
+        "two beside one another (0 and 1, 2 and 3 ..) make a number above: 31 times the left and 17 times the right and 5, the rest by 9973; these again, and again, to the ROOT.",
     })
     void aSquareOfZeroIsNotNone() {
         draw(1, 1, 0);

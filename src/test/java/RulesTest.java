@@ -3,7 +3,7 @@ import java.lang.reflect.Method;
 import java.lang.reflect.Modifier;
 import java.nio.file.Files;
 import java.nio.file.Path;
-import java.util.Arrays;
+import java.util.List;
 import java.util.Set;
 import java.util.TreeSet;
 import java.util.regex.Matcher;
@@ -12,89 +12,69 @@ import java.util.regex.Pattern;
 /** The public face, and the rules of LANGUAGE.md that can be read off the class and its source. */
 public final class RulesTest {
     private static final Path SOURCE = Path.of("src/main/java/PicturePapers.java");
-    private static final int MOST_PARAMETERS = 7, MOST_LINES = 60, MOST_FIELDS = 20, MOST_CLASSES = 12;
+    private static final int MOST_PARAMETERS = 7, MOST_LINES = 60, MOST_FIELDS = 20, MOST_CLASSES = 12, MOST_DEEP = 8;
 
-    private static final String FACE = """
-            int picture(int, int, int, int, int)
-            int ofPicture(int, int)
-            int alter(int, int, int)
-            int lens(int)
-            int steal(int, int)
-            int take(int, int, int)
-            int hush(int, int, int, int)
-            int change(int, int, int, int, int, int, int, int)
-            int act(int, int, int, int, int)
-            int tear(int)
-            int line(int, int)
-            int speaks(int)
-            int play(int)
-            int within(int)
-            int way(int, int)
-            int doubt(int)
-            int whole(int)
-            int proof(int, int, int)
-            int proves(int, int, int, int, int, int)
-            int hide(int, int)
-            int found(int, int)
-            long falsely(int, int, int)
-            int like(int, int)
-            int nearest(int, int)
-            int coarse(int, int)
-            int look(int, int, int)
-            int best(int, int)
-            int doubtful()
-            int sheet(int, int, int)
-            int lose(int)
-            int put(int, int, int)
-            long cell(int, int, int)
-            int copy(int, int, int, int, int)
-            int tell(int)
-            int show(int)
-            int as(int, int)
-            int trace()
-            int fault()
-            int many(int)
-            """;
+    /** What rule 4 lists of the library, as far as a class without texts and lists can call it. */
+    private static final Set<String> LIBRARY = Set.of("java.lang.Object.<init>", "java.lang.System.arraycopy",
+            "java.util.Arrays.copyOf", "java.util.Arrays.copyOfRange", "java.util.Arrays.fill",
+            "java.lang.Math.abs", "java.lang.Math.max", "java.lang.Math.min",
+            "java.lang.Math.floorDiv", "java.lang.Math.floorMod");
 
     private final Check check = new Check();
 
     public static void main(String[] args) throws Exception {
         RulesTest test = new RulesTest();
-        test.face();
+        test.face(new Document().face(), Files.readString(SOURCE));
         test.classes();
+        test.calls(new CallGraph(SOURCE));
         test.source(Files.readString(SOURCE));
         test.check.finish();
     }
 
-    private void face() {
-        check.about("rule 1");
-        Set<String> due = new TreeSet<>(FACE.lines().toList());
-        Set<String> got = new TreeSet<>();
-        Set<String> publicNames = new TreeSet<>();
-        for (Method method : PicturePapers.class.getDeclaredMethods()) {
-            if (!Modifier.isPrivate(method.getModifiers())) {
-                String types = Arrays.toString(Arrays.stream(method.getParameterTypes()).map(Class::getName).toArray());
-                got.add(method.getReturnType() + " " + method.getName() + "(" + types.substring(1, types.length() - 1) + ")");
-                publicNames.add(method.getName());
-                check.holds(method.getModifiers() == Modifier.PUBLIC, method + " is public and no more");
-            }
-        }
-        check.holds(due.equals(got), "the methods are " + due + ": " + got);
-        for (Method method : PicturePapers.class.getDeclaredMethods()) {
-            boolean isPrivate = Modifier.isPrivate(method.getModifiers());
-            check.holds(!isPrivate || !publicNames.contains(method.getName()), method + " has a name of its own");
-        }
+    /** Each row of the document's face stands in the source, and nothing else is to be seen from outside. */
+    private void face(List<String> rows, String source) {
+        check.about("the public face and rule 1");
+        Set<String> methods = new TreeSet<>();
         Set<String> constants = new TreeSet<>();
-        for (Field field : PicturePapers.class.getDeclaredFields()) {
-            if (!Modifier.isPrivate(field.getModifiers())) {
-                constants.add(field.getType() + " " + field.getName());
-                check.due(field.getModifiers(), Modifier.PUBLIC | Modifier.STATIC | Modifier.FINAL, "" + field);
+        for (String row : rows) {
+            String head = row.substring(0, row.length() - (row.contains("=") ? 0 : 1));
+            check.holds(source.contains(head), "the source has " + head);
+            if (row.contains("=")) {
+                Matcher names = Pattern.compile("(\\w+) = ").matcher(row);
+                names.results().forEach(name -> constants.add(name.group(1)));
+            } else if (!row.contains("PicturePapers")) {
+                methods.add(row.replaceAll("public \\w+ (\\w+)\\(.*", "$1"));
             }
         }
-        check.due(constants.equals(Set.of("int UNKNOWN", "int OUTSIDE", "int STATE", "int FULL", "int NONE", "long LOST"))
-                ? 1 : 0, 1, "the constants: " + constants);
-        check.due(PicturePapers.class.getModifiers(), Modifier.PUBLIC | Modifier.FINAL, "the class");
-        check.due(PicturePapers.class.getDeclaredConstructors().length, 1, "constructors");
+        check.due(methods.size(), 39, "methods of the face");
+        check.due(constants.size(), 6, "constants of the face");
+        Class<?> type = PicturePapers.class;
+        check.due(type.getModifiers(), Modifier.PUBLIC | Modifier.FINAL, "the class");
+        check.due(type.getDeclaredConstructors().length, 1, "constructors");
+        check.due(type.getDeclaredConstructors()[0].getModifiers(), Modifier.PUBLIC, "the constructor");
+        Set<String> got = new TreeSet<>();
+        for (Method method : type.getDeclaredMethods()) {
+            boolean isPrivate = Modifier.isPrivate(method.getModifiers());
+            check.holds(isPrivate || method.getModifiers() == Modifier.PUBLIC, method + " is public and no more");
+            check.holds(isPrivate != methods.contains(method.getName()), method + " is the face's or private");
+            check.holds(isPrivate || got.add(method.getName()), method + " stands once");
+        }
+        check.holds(got.equals(methods), "the methods are " + methods + ": " + got);
+        for (Field field : type.getDeclaredFields()) {
+            boolean isConstant = constants.contains(field.getName());
+            check.holds(isConstant != Modifier.isPrivate(field.getModifiers()), field + " is the face's or private");
+            check.holds(!isConstant || field.getModifiers() == (Modifier.PUBLIC | Modifier.STATIC | Modifier.FINAL), "" + field);
+        }
+    }
+
+    private void calls(CallGraph graph) {
+        check.about("rules 4, 8 and 11");
+        for (String name : graph.libraryCalls()) {
+            check.holds(LIBRARY.contains(name), "rule 4 lists " + name);
+        }
+        check.holds(graph.recursive().isEmpty(), "nothing calls itself: " + graph.recursive());
+        List<String> chain = graph.longestChain();
+        check.holds(chain.size() <= MOST_DEEP, "calls go at most " + MOST_DEEP + " deep: " + chain);
     }
 
     private void classes() {

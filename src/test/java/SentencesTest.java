@@ -4,21 +4,22 @@ import java.util.ArrayList;
 import java.util.Comparator;
 import java.util.List;
 
-/** Each sentence of the document that names a boundary: a case of its own, that cites its words. */
-public final class BoundariesTest {
+/** Each sentence of the document: a case of its own, that cites its words; no word is left uncited. */
+public final class SentencesTest {
     private static final List<Class<? extends Boundaries>> SUITES = List.of(
             PictureBoundaries.class, ActBoundaries.class, LineBoundaries.class, WayBoundaries.class,
-            MarkBoundaries.class, SheetBoundaries.class, PartBoundaries.class);
+            MarkBoundaries.class, SheetBoundaries.class, PartBoundaries.class,
+            AnswerSentences.class, ChangeSentences.class);
 
     private final Check check = new Check();
     private final Document document;
 
-    private BoundariesTest(Document document) {
+    private SentencesTest(Document document) {
         this.document = document;
     }
 
     public static void main(String[] args) throws Exception {
-        BoundariesTest test = new BoundariesTest(new Document());
+        SentencesTest test = new SentencesTest(new Document());
         int cases = 0;
         for (Class<? extends Boundaries> suite : SUITES) {
             for (Method method : casesOf(suite)) {
@@ -27,7 +28,7 @@ public final class BoundariesTest {
             }
         }
         test.nothingIsLeftOut();
-        System.out.println(cases + " boundary cases");
+        System.out.println(cases + " cases");
         test.check.finish();
     }
 
@@ -59,8 +60,8 @@ public final class BoundariesTest {
     private void nothingIsLeftOut() {
         for (int section = 0; section <= document.promises(); section++) {
             check.about(section == 0 ? "the terms" : "promise " + section);
-            for (String around : document.uncited(section)) {
-                check.holds(false, "a case for '.." + around + "..'");
+            for (String words : document.uncited(section)) {
+                check.holds(false, "a case for '" + words + "'");
             }
         }
     }
